@@ -33,7 +33,9 @@ public final class PromisesTest {
         tellingWords();
         counts();
         troubles();
+        troublesTaken();
         tapeAfterCalls();
+        fullHouse();
         CHECK.end();
     }
 
@@ -303,6 +305,12 @@ public final class PromisesTest {
         keyword(x, 1, "b");
         text(x, "a b");
         due("change is 200 at first", x.part(), 200);
+        learn(x, 0, "wxyz");
+        text(x, "wxyz");
+        due("gap is 100 at first", x.tells(0, 1), 1);
+        x.set(200, 101);
+        due("one more", x.tells(0, 1), -2);
+        text(x, "a b");
         due("set", x.set(2000, 5000), true);
         due("set's trouble", x.trouble(), 0);
         due("change", x.part(), 500);
@@ -752,6 +760,64 @@ public final class PromisesTest {
         x.forget(3);
         x.tells(0, 1);
         due("tells", x.trouble(), 0);
+    }
+
+    /** A call that isn't refused takes the trouble of the one ahead away. */
+    private static void troublesTaken() {
+        TongueTeller x = withTongues(2);
+        for (int k = 0; k < 9; k++) {
+            x.forget(99);
+            due("trouble ahead of " + k, x.trouble(), 1);
+            int n = Check.feed(x, "" + (char) ('a' + k));
+            switch (k) {
+                case 0 -> due("learn", x.learn(0, n), 0);
+                case 1 -> due("forget", x.forget(0), true);
+                case 2 -> due("keyword", x.keyword(0, 1), 1);
+                case 3 -> due("name", x.name(n), 1);
+                case 4 -> due("set", x.set(200, 100), true);
+                case 5 -> due("text", x.text(n), 1);
+                case 6 -> due("more", x.more(n), 1);
+                case 7 -> due("sure", x.sure(0), 0);
+                default -> due("tells", x.tells(0, 1), -2);
+            }
+            due("trouble behind " + k, x.trouble(), 0);
+        }
+    }
+
+    private static void fullHouse() {
+        TongueTeller x = withKeywords(8);
+        due("sixty words", text(x, "h ".repeat(59) + "a"), 60);
+        due("part", x.part(), 200);
+        due("first", x.told(0), 7);
+        due("last", x.told(59), 0);
+        due("spans", x.spans(), 2);
+        due("last span", x.span(1, 0), 59);
+        due("last span's length", x.span(1, 1), 1);
+        due("first span's length", x.span(0, 1), 59);
+        due("sure of the last", x.sure(59), 300);
+        due("sure of the first", x.sure(0), 700);
+        due("fixed", x.fixed(), 59);
+        due("whole", x.whole(7), 500);
+        x.set(200, 5000);
+        due("tells", x.tells(7, 0), 10);
+        due("telling", x.telling(9), 9);
+        due("sixty marks", text(x, "1 ".repeat(60)), 60);
+        due("no cost", x.part(), 0);
+        due("none tell", x.tells(7, 0), -2);
+        learn(x, 7, "wxyz");
+        text(x, "wxyz ".repeat(60));
+        due("fifty of sixty", x.tells(7, 0), 50);
+        text(x, "wx ".repeat(60));
+        due("not even all", x.tells(7, 0), -2);
+        x.set(200, 2400);
+        due("all sixty", x.tells(7, 0), 60);
+        due("the last of them", x.telling(59), 59);
+        due("no more", Check.tellingOf(x, 60), THROWN);
+        x.set(2000, 5000);
+        text(x, "h a ".repeat(30));
+        due("dearest changes", x.part(), 15000);
+        due("the first tongue of two", x.told(59), 0);
+        due("one span", x.spans(), 1);
     }
 
     /** Twenty bytes are fed, the call is made, and so many are there. */
