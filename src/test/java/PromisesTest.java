@@ -1,10 +1,7 @@
 import java.nio.charset.StandardCharsets;
 
 /** For each promise what it says, its edges, and wrong inputs. */
-public final class PromisesTest {
-    private static final Check CHECK = new Check();
-    private static final int THROWN = -100;
-
+public final class PromisesTest extends TellerTest {
     public static void main(String[] args) {
         newObject();
         feeding();
@@ -37,52 +34,6 @@ public final class PromisesTest {
         tapeAfterCalls();
         fullHouse();
         CHECK.end();
-    }
-
-    private static void due(String what, long got, long want) {
-        CHECK.due(what, got, want);
-    }
-
-    private static void due(String what, boolean got, boolean want) {
-        CHECK.due(what, got, want);
-    }
-
-    private static void refused(String what, TongueTeller x, long got, int trouble) {
-        due(what, got, TongueTeller.NONE);
-        due(what + ": trouble", x.trouble(), trouble);
-    }
-
-    private static int learn(TongueTeller x, int tongue, String text) {
-        return x.learn(tongue, Check.feed(x, text));
-    }
-
-    private static int keyword(TongueTeller x, int tongue, String text) {
-        return x.keyword(tongue, Check.feed(x, text));
-    }
-
-    private static int name(TongueTeller x, String text) {
-        return x.name(Check.feed(x, text));
-    }
-
-    private static int text(TongueTeller x, String text) {
-        return x.text(Check.feed(x, text));
-    }
-
-    private static int more(TongueTeller x, String text) {
-        return x.more(Check.feed(x, text));
-    }
-
-    private static TongueTeller withTongues(int tongues) {
-        TongueTeller x = new TongueTeller();
-        for (int k = 0; k < tongues; k++) {
-            x.tongue();
-        }
-        return x;
-    }
-
-    /** Distinct words of letters alone. */
-    private static String wordOf(int k) {
-        return "w" + (char) ('a' + k / 26) + (char) ('a' + k % 26);
     }
 
     private static void newObject() {
@@ -476,23 +427,6 @@ public final class PromisesTest {
         keyword(x, 1, "ab");
         due("a keyword of the other", x.cost(0, 0), 480);
         due("in the other", x.cost(0, 1), 0);
-    }
-
-    /** Keywords make words that cost 0 in theirs and 500 in the others, letters' pairs unlearnt. */
-    private static TongueTeller withKeywords(int tongues) {
-        TongueTeller x = withTongues(tongues);
-        for (int k = 0; k < tongues; k++) {
-            keyword(x, k, "" + (char) ('a' + k));
-        }
-        return x;
-    }
-
-    private static void toldRow(String what, TongueTeller x, int... due) {
-        for (int i = 0; i < due.length; i++) {
-            due(what + " told " + i, x.told(i), due[i]);
-        }
-        due(what + " told beyond", x.told(due.length), -1);
-        due(what + " told below", x.told(-1), -1);
     }
 
     private static void partings() {
