@@ -5,6 +5,7 @@ import java.util.Random;
 public final class ModelTest {
     private static final int RUNS = 1500;
     private static final int CALLS = 512;
+    private static final int CROWDED = 4;
     private static final Check CHECK = new Check();
 
     private final Random chance;
@@ -32,6 +33,9 @@ public final class ModelTest {
 
     private void run(long seed) {
         int before = CHECK.wrong();
+        if (seed % CROWDED == 0) {
+            crowd();
+        }
         while (calls < CALLS && CHECK.wrong() == before) {
             step();
         }
@@ -116,6 +120,25 @@ public final class ModelTest {
                 : chance.nextInt(Math.max(1, model.count(4)));
     }
 
+    /** Nearly all the room is taken, so that the chance calls come to its bounds. */
+    private void crowd() {
+        for (int k = 0; k < 7; k++) {
+            same("tongue()", real.tongue(), model.tongue());
+        }
+        for (int k = 0; k < 97; k++) {
+            int tongue = k % 7;
+            same("learn(" + tongue + ", 0)", real.learn(tongue, 0), model.learn(tongue, 0));
+        }
+        for (int k = 0; k < 29; k++) {
+            int n = feed("n" + (char) ('a' + k % 26) + (char) ('a' + k / 26));
+            same("name(" + n + ")", real.name(n), model.name(n));
+        }
+        for (int k = 0; k < 58; k++) {
+            int n = feed("k" + (char) ('a' + k % 26) + (char) ('a' + k / 26));
+            same("keyword(" + k % 7 + ", " + n + ")", real.keyword(k % 7, n), model.keyword(k % 7, n));
+        }
+    }
+
     private void step() {
         int kind = chance.nextInt(100);
         if (kind < 4) {
@@ -138,7 +161,7 @@ public final class ModelTest {
             int n = feed(chance.nextInt(6) == 0 ? "" : someText());
             same("learn(" + tongue + ", " + n + ")", real.learn(tongue, n), model.learn(tongue, n));
         } else if (kind < 12) {
-            int number = chance.nextInt(8) == 0 ? chance.nextInt() : chance.nextInt(20);
+            int number = chance.nextInt(8) == 0 ? chance.nextInt() : chance.nextInt(5 + model.count(1));
             same("forget(" + number + ")", real.forget(number), model.forget(number));
         } else if (kind < 17) {
             int n = feed(oneWord());

@@ -145,8 +145,8 @@ public final class PartingBoundsTest extends TellerTest {
         learn(x, 0, "wxyz");
         text(x, "wxyz");
         due("P8 GAP is 100 at first: 100 less tells", x.tells(0, 1), 1);
-        text(x, "wxy");
-        due("P8 GAP is 100 at first: 60 less doesn't", x.tells(0, 1), -2);
+        text(x, "wxyzq");
+        due("P8 GAP is 100 at first: 80 less doesn't", x.tells(0, 1), -2);
         text(x, "wxyz");
         taken("P8 GAP 101", x, x.set(200, 101));
         due("P8 100 less doesn't", x.tells(0, 1), -2);
@@ -635,6 +635,8 @@ public final class PartingBoundsTest extends TellerTest {
         refused("P24 1 by whole", x, x.whole(2), 1);
         taken("P24 tells", x, x.tells(0, 1), -2);
         refused("P24 1 by sure", x, x.sure(1), 1);
+        taken("P24 sure of two tongues", x, x.sure(0), 0);
+        refused("P24 1 by sure", x, x.sure(-1), 1);
         taken("P24 part", x, x.part(), 0);
     }
 }
