@@ -105,6 +105,22 @@ public final class FaceTest {
         }
         CHECK.due("signs 1 to 127 alone", source.chars().allMatch(sign -> sign > 0 && sign < 128), true);
         shortMethods(code);
+        madeByCalls(code);
+    }
+
+    /** The room that all calls of a run share is kept small: of all calls learn alone makes something. */
+    private static void madeByCalls(String code) {
+        Set<String> made = new TreeSet<>();
+        for (String line : code.split("\n")) {
+            boolean field = line.matches("^(?: {4}| {8})(?:private |final |private final )\\S.*");
+            if (line.matches(".*\\bnew\\b.*") && !field && !line.contains("throw new ")) {
+                made.add(line.trim());
+            }
+        }
+        Set<String> due = new TreeSet<>(Arrays.asList(
+                "Learnt fresh = new Learnt(nextLearnt, tongue, trailOfDraft());", "byte[] trail = new byte[length];",
+                "letters = new byte[places * MOST_LETTERS];", "lengths = new int[places];"));
+        CHECK.due("made in methods and constructors: " + made, made.equals(due), true);
     }
 
     /** Methods of the outer class stand four blanks in, those of the others eight. */
